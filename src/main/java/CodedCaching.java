@@ -1048,7 +1048,8 @@ public final class CodedCaching {
 
     /**
      * The bound. What a user adds depends only on the set of the users before it, not on their order,
-     * so the best order of each set follows from those of the sets with one user less.
+     * so the best order of each set follows from those of the sets with one user less. The entries
+     * of the empty set stay 0.
      */
     private static final class BoundFinder {
         private final int[] best = new int[USER_SETS];
@@ -1057,8 +1058,6 @@ public final class CodedCaching {
 
         int greatest(World world) {
             int demanding = world.demanding();
-            best[0] = 0;
-            covered[0] = 0;
             for (int set = 1; set <= demanding && set < USER_SETS; set++) {
                 if ((set & ~demanding) == 0) {
                     extend(world, set);
@@ -1069,7 +1068,6 @@ public final class CodedCaching {
 
         private void extend(World world, int set) {
             best[set] = 0;
-            covered[set] = 0;
             for (int u = 0; u < world.users; u++) {
                 if ((set >> u & 1) != 0) {
                     Member last = world.members[u];
@@ -1077,7 +1075,7 @@ public final class CodedCaching {
                     long file = piecesOf(last.wanted);
                     int added = Long.bitCount(file & ~last.cache & ~covered[before]);
                     best[set] = Math.max(best[set], best[before] + added);
-                    covered[set] |= covered[before] | last.cache | file;
+                    covered[set] = covered[before] | last.cache | file;
                 }
             }
         }
@@ -1122,8 +1120,6 @@ public final class CodedCaching {
                 return false;
             }
             verb = letterHere();
-            first = 0;
-            second = 0;
             switch (verb) {
                 case 'w':
                     position++;

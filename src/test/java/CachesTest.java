@@ -106,6 +106,9 @@ public final class CachesTest {
         new Run("6 storeSubsets, some caches too small").calls("reset(1,6,8); storeSubsets(4) = FULL; user(0,2) = 0;"
                 + " user(5,2) = 0; reset(1,6,9); storeSubsets(4) = 15; user(0,2) = 9; user(1,2) = 9; user(2,2) = 9;"
                 + " user(3,2) = 7; user(4,2) = 7; user(5,2) = 7");
+        // Those of 3 give 8 parts to user 0, and at most 7 to the others.
+        new Run("6 storeSubsets, one cache too small").calls("reset(1,6,7); storeSubsets(3) = FULL; user(1,2) = 0;"
+                + " reset(1,6,8); storeSubsets(3) = 20; user(0,2) = 8; user(1,2) = 7");
         // The first 12 sets of 2 give 5 parts to the users 0 and 1, and 2 to user 5: the last one alone fits.
         new Run("6 storeSubsets, nothing is filled if one does not fit").calls("reset(1,6,4); store(5,0) = 1;"
                 + " storeSubsets(2) = FULL; user(5,2) = 1; user(2,2) = 0; cached(5,0) = 1");

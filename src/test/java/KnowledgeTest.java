@@ -40,6 +40,8 @@ public final class KnowledgeTest {
         // A sum that comes later does not replace an earlier proof, and what is in the cache needs none.
         run.calls("sum(1); send(2); proof(0,0) = 11; store(1,0) = 1; proof(1,0) = 0; drop(0,7); store(0,2);"
                 + " proof(0,2) = 0; proof(0,1) = 2; proof(0,0) = 3; proof(0,7) = 8");
+        new Run("22 proof, just the rows that are needed").calls("reset(1,1,0); sum(3); sum(6); sum(11)").times(3, "send(0)")
+                .calls("proof(0,3) = 5; reset(1,1,0); sum(7); sum(10); sum(6)").times(3, "send(0)").calls("proof(0,0) = 5");
         Run chain = new Run("22 proof, 40 sums").calls("reset(5,1,0)");
         for (int piece = 0; piece < 39; piece++) {
             chain.calls("sum(" + (3L << piece) + "); send(0)");
@@ -65,6 +67,8 @@ public final class KnowledgeTest {
         // Only what the users before have in their caches is left out: the greatest order counts.
         new Run("24 bound, orders").calls("reset(3,3,12); store(0,12); store(0,13); store(0,24); store(1,24); store(1,0);"
                 + " store(2,1); store(2,2); store(2,3); want(0,0); want(1,1); want(2,2); bound() = 34");
+        new Run("24 bound, the user with a full cache last").calls("reset(2,2,3); store(0,12); store(0,13); store(0,14);"
+                + " want(0,0); want(1,1); bound() = 24; reset(2,2,3); store(1,0); store(1,1); want(0,0); want(1,1); bound() = 24");
         new Run("24 bound, what was received does not count").calls("reset(1,1,1); want(0,0); store(0,3); sum(1); send(0);"
                 + " bound() = 11; need(0) = 10");
         // User 0 wants nothing: its cache does not matter.

@@ -42,6 +42,8 @@ public final class SlotsTest {
         // The plans are not in the digest but by their number: they are carried out as they were made.
         run.calls("schedule(0); count(3) = 22").times(22, "send(0)").calls("idle(1) = 1; cached(1,2) = 1; cached(2,2) = 0;"
                 + " idle(1) = 1; cached(2,2) = 1; count(6) = 1; decode(2,35) = 26; setContent(30,1) = STATE");
+        new Run("34 restore, plans").calls("reset(1,2,3); plan(0,1,1); plan(1,2,5); save(0); reset(1,2,3); plan(0,3,9);"
+                + " plan(0,4,0); restore(0); count(5) = 2; idle(1) = 1; cached(1,2) = 1; idle(1) = 1; cached(0,1) = 1");
         // The contents, and with them the bytes of the sums, come back.
         new Run("34 restore, contents").calls("setContent(3,99) = 122; save(0); setContent(3,5) = 99; restore(0);"
                 + " setContent(3,99) = 99; sum(8); send(0); save(1); reset(1,1,0); sum(8); send(0); decode(0,3) = 122;"

@@ -48,6 +48,9 @@ public final class SumsTest {
         // What a user knows from a sum is not missing for it, but is not in its cache either.
         run.calls("join(0); join(1); want(0,NONE); want(1,NONE); schedule(1) = 0; sum(1); send(0) = 3; want(0,0);"
                 + " want(1,1); schedule(1) = 2; pending(0) = 4098; pending(1) = 4; drop(1,1) = 21; schedule(1) = 3; pending(0) = 4096; pending(1) = 2; pending(2) = 4");
+        // User 0 wants nothing: that it has piece 0 does not matter.
+        new Run("15 subsets, of demanding users").calls("reset(2,3,1); store(0,0); store(2,1); want(1,0); want(2,1);"
+                + " schedule(1) = 24; pending(0) = 2; pending(1) = 1; pending(2) = 4; pending(12) = 4096");
         subsetsByDescendingSize();
         mostSums();
     }
@@ -96,6 +99,11 @@ public final class SumsTest {
         cacheAllBut(third, 0, 0, 12);
         cacheAllBut(third, 1, 12);
         third.calls("want(0,0); want(1,1); schedule(3) = 2; pending(0) = 1; pending(1) = 4096");
+        Run fourth = new Run("15 greedy, who joined must bear it too").calls("reset(3,3,36)");
+        cacheAllBut(fourth, 0, 0);
+        cacheAllBut(fourth, 1, 12, 24);
+        cacheAllBut(fourth, 2, 24);
+        fourth.calls("want(0,0); want(1,1); want(2,2); schedule(3) = 2; pending(0) = 4097; pending(1) = 16777216");
         new Run("15 greedy, the same piece for all").calls("reset(1,3,0); want(0,0); want(1,0); want(2,0); leave(1);"
                 + " schedule(3) = 12; pending(0) = 1; pending(11) = 2048");
     }
@@ -131,7 +139,9 @@ public final class SumsTest {
         Run run = new Run("16 send, 40 received").calls("reset(1,2,0); sum(1)").times(39, "sum(3)");
         run.times(40, "send(2)").calls("user(0,3) = 40; user(0,4) = 2; user(0,5) = 38; proof(0,0) = 1; proof(0,1) = 3;"
                 + " sum(4); send(2) = 1; user(0,3) = 40; decode(0,0) = NONE; user(0,4) = 2; user(0,5) = 38;"
-                + " proof(0,2) = " + (1L << 39) + "; decode(0,2) = 85; user(1,3) = 0; count(4) = 41");
+                + " proof(0,2) = " + (1L << 39) + "; decode(0,2) = 85; user(1,3) = 0; count(4) = 41;"
+                + " sum(2); send(2); proof(0,0) = " + (1L + (1L << 39)) + "; decode(0,0) = 11; decode(0,1) = 48;"
+                + " decode(0,2) = 85");
     }
 
     private static void resend() {
