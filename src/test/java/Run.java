@@ -1,27 +1,39 @@
 import java.lang.reflect.Method;
+import java.lang.reflect.Modifier;
+import java.util.ArrayList;
 import java.util.HashMap;
+import java.util.List;
 import java.util.Map;
 import java.util.Set;
 
 /**
  * A run of calls on a new object, written as the document writes its examples:
- * "reset(2,2,12) = 24; want(0,0) = NONE; rate() = 0.5f". A call without an answer is only made,
- * and must not return an error. A call that returns an error, and one that only asks, must leave
- * the digest as it was.
+ * "reset(2,2,12) = 24; want(0,0) = NONE; 3 * sum(1); rate() = 0.5f". A call without an answer is
+ * only made, and must not return an error; a number ahead of a call makes it so many times.
+ *
+ * <p>A call that is to return an error, and one that only asks, must leave everything that the object
+ * shows as it was. What an object shows only later (plans, slots, bytes) is looked at in the end: an
+ * object that was spared these calls must still be its twin. These looks are calls, too; a run may
+ * have more than 512 with them, which the class does not count.
  */
 final class Run {
     private static final Map<String, Method> FACE = new HashMap<>();
     private static final Set<String> ASKING = Set.of("cached", "pending", "sent", "user", "decode",
-            "proof", "need", "bound", "rate", "formula", "sharedRate", "fault", "why", "save", "count");
+            "proof", "need", "bound", "rate", "formula", "sharedRate", "fault", "why", "count", "digest");
+    private static final List<Run> ALL = new ArrayList<>();
     private static int wrong = 0;
     private static int made = 0;
 
     private final String name;
+    private final List<String> allCalls = new ArrayList<>();
+    private final List<String> changingCalls = new ArrayList<>();
+    /** What the object shows now, or null if it may have changed since it was looked at. */
+    private String shown = null;
     final CodedCaching object = new CodedCaching();
 
     static {
         for (Method method : CodedCaching.class.getDeclaredMethods()) {
-            if (java.lang.reflect.Modifier.isPublic(method.getModifiers())) {
+            if (Modifier.isPublic(method.getModifiers())) {
                 FACE.put(method.getName(), method);
             }
         }
@@ -29,10 +41,14 @@ final class Run {
 
     Run(String name) {
         this.name = name;
+        ALL.add(this);
     }
 
     /** Ends the test program: with exit code 1 if an answer was not the one that is due. */
     static void end() {
+        for (Run run : ALL) {
+            run.compareWithTwin();
+        }
         System.out.println(made + " calls, " + wrong + " answers not as due");
         if (wrong != 0) {
             System.exit(1);
@@ -47,10 +63,19 @@ final class Run {
     Run calls(String calls) {
         for (String call : calls.split(";")) {
             if (!call.isBlank()) {
-                oneCall(call.strip());
+                timesWritten(call.strip());
             }
         }
         return this;
+    }
+
+    private void timesWritten(String call) {
+        int star = call.indexOf('*');
+        if (star < 0) {
+            oneCall(call);
+        } else {
+            times(Integer.parseInt(call.substring(0, star).strip()), call.substring(star + 1).strip());
+        }
     }
 
     Run times(int times, String call) {
@@ -65,13 +90,13 @@ final class Run {
         int length = object.count(9);
         for (char letter : text.toCharArray()) {
             length++;
-            due("type(" + (int) letter + ")", object.type(letter), length);
+            oneCall("type(" + (int) letter + ") = " + length);
         }
         return this;
     }
 
     Run newText(String text) {
-        object.clearText();
+        oneCall("clearText()");
         return text(text);
     }
 
@@ -83,30 +108,75 @@ final class Run {
         return this;
     }
 
+    /** Makes a call that must be taken, whatever else it answers: anything but BAD. */
+    Run taken(String call) {
+        made++;
+        long got = record(call, false);
+        if (got == CodedCaching.BAD) {
+            complain(name + ": " + call + " answered BAD");
+        }
+        return this;
+    }
+
     private void oneCall(String call) {
         int equals = call.indexOf('=');
         String plain = equals < 0 ? call : call.substring(0, equals).strip();
-        long before = object.digest();
-        long got = make(plain);
-        if (equals >= 0) {
-            due(plain, got, answer(call.substring(equals + 1).strip()));
+        boolean due = equals >= 0;
+        long want = due ? number(call.substring(equals + 1).strip()) : 0;
+        boolean asks = ASKING.contains(plain.substring(0, plain.indexOf('(')));
+        boolean leavesAll = asks || due && isError(want);
+        if (leavesAll && shown == null) {
+            shown = Shown.by(object);
+        }
+        String before = shown;
+        long got = record(plain, leavesAll);
+        if (due) {
+            due(plain, got, want);
         } else if (isError(got)) {
             complain(name + ": " + plain + " answered " + got + ", which is an error");
         }
-        boolean asks = ASKING.contains(plain.substring(0, plain.indexOf('(')));
-        if ((asks || isError(got)) && object.digest() != before) {
-            complain(name + ": " + plain + " changed the digest");
+        if (leavesAll) {
+            shown = Shown.by(object);
+            if (!shown.equals(before)) {
+                complain(name + ": " + plain + " changed what the object shows");
+            }
         }
     }
 
-    private long make(String call) {
+    private long record(String call, boolean leavesAll) {
+        allCalls.add(call);
+        if (!leavesAll) {
+            changingCalls.add(call);
+            shown = null;
+        }
+        return make(object, call);
+    }
+
+    private void compareWithTwin() {
+        if (allCalls.size() == changingCalls.size()) {
+            return;
+        }
+        if (!Shown.inDepthBy(madeBy(allCalls)).equals(Shown.inDepthBy(madeBy(changingCalls)))) {
+            complain(name + ": a call that returned an error, or only asked, changed what the object shows later");
+        }
+    }
+
+    private CodedCaching madeBy(List<String> calls) {
+        CodedCaching fresh = new CodedCaching();
+        for (String call : calls) {
+            make(fresh, call);
+        }
+        return fresh;
+    }
+
+    private long make(CodedCaching target, String call) {
         int open = call.indexOf('(');
         Method method = FACE.get(call.substring(0, open));
         String inside = call.substring(open + 1, call.indexOf(')'));
         String[] parts = inside.isBlank() ? new String[0] : inside.split(",");
         Object[] arguments = new Object[parts.length];
         for (int i = 0; i < parts.length; i++) {
-            long value = answer(parts[i].strip());
+            long value = number(parts[i].strip());
             if (method.getParameterTypes()[i] == long.class) {
                 arguments[i] = value;
             } else {
@@ -114,7 +184,7 @@ final class Run {
             }
         }
         try {
-            return ((Number) method.invoke(object, arguments)).longValue();
+            return ((Number) method.invoke(target, arguments)).longValue();
         } catch (ReflectiveOperationException e) {
             throw new IllegalStateException(name + ": " + call, e);
         }
@@ -124,7 +194,7 @@ final class Run {
         return answer == -101 || answer == -102 || answer == -103;
     }
 
-    private static long answer(String word) {
+    private static long number(String word) {
         switch (word) {
             case "BAD": return -101;
             case "STATE": return -102;
@@ -132,6 +202,8 @@ final class Run {
             case "NONE": return -1;
             case "MIN": return Integer.MIN_VALUE;
             case "MAX": return Integer.MAX_VALUE;
+            case "LONGMIN": return Long.MIN_VALUE;
+            case "LONGMAX": return Long.MAX_VALUE;
             default: break;
         }
         if (word.endsWith("f")) {
