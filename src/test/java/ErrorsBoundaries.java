@@ -66,7 +66,8 @@ final class ErrorsBoundaries {
 
     private static void refusedByFullObject() {
         Run run = Boundary.of(0, NOTHING).calls("reset(5,6,59); setContent(59,7) = 146; storeRandom(7) = 11; want(0,0); want(5,4);"
-                + " leave(2) = 5; save(1) = 0; 100 * sum(3); 100 * send(1); 100 * sum(6); 30 * plan(3,3,3); save(0) = 100; 78 * type(32)");
+                + " leave(2) = 5; save(1) = 0; 100 * sum(3); 100 * send(1); 100 * sum(6); 10 * plan(3,3,3); 10 * plan(4,4,9);"
+                + " 10 * plan(5,5,6); save(0) = 100; 78 * type(32)");
         run.text("l2").calls("reset(6,1,1) = BAD; reset(5,6,-1) = BAD; setContent(59,8) = STATE; setContent(60,8) = BAD;"
                 + " storeSubsets(6) = FULL; storeSubsets(7) = BAD; storeRandom(-1) = BAD; plan(0,0,0) = FULL; plan(6,0,0) = BAD;"
                 + " idle(50) = STATE; idle(51) = BAD; want(5,5) = BAD; want(6,4) = BAD; leave(2) = STATE; leave(6) = BAD; join(0) = STATE;"
@@ -85,8 +86,11 @@ final class ErrorsBoundaries {
                 + " schedule(5) = BAD; send(-1) = BAD; resend(2) = BAD; run() = STATE; restore(1) = STATE; reset(3,3,61) = BAD;"
                 + " setContent(0,0) = STATE; user(3,0) = BAD; decode(3,0) = BAD; need(-1) = BAD; formula(4) = BAD; count(-1) = BAD");
         // Also a call within run() that returns an error changes nothing.
-        run.newText("l1;l0;").calls("run() = 0; why() = STATE; count(8) = 5").newText("q3;").calls("run() = 0; why() = FULL; user(0,2) = 4;"
-                + " cached(0,35) = 1").newText("i9;").calls("run() = 0; count(5) = 2").newText("w03;").calls("run() = 0; user(0,0) = 0");
+        Run within = Boundary.of(0, NOTHING).calls("reset(3,3,4); store(0,1); store(0,2); store(0,13); store(0,35); plan(1,2,3); plan(2,2,2);"
+                + " want(0,0); leave(1); sum(7)");
+        within.newText("l1;l0;").calls("run() = 0; why() = STATE; count(8) = 5").newText("q3;").calls("run() = 0; why() = FULL; user(0,2) = 4;"
+                + " cached(0,35) = 1").newText("i9;").calls("run() = 0; count(5) = 2").newText("w03;").calls("run() = 0; user(0,0) = 0;"
+                + " send(0); idle(1) = 1; cached(1,2) = 1; cached(2,2) = 0");
     }
 
     /** An object is used for at most 512 calls: the last one still answers as it is due. */

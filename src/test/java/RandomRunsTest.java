@@ -7,8 +7,9 @@ import java.util.Map;
 import java.util.Random;
 
 /**
- * Random runs of 512 calls, with every answer compared with the one of the Model. The seeds are
- * fixed, so each run of the test makes the same calls. An argument tells another number of runs.
+ * Random runs of 512 calls, with every answer compared with the one of the Model; a refused call
+ * must leave all that the object shows as it was. The seeds are fixed, so each run of the test makes
+ * the same calls. An argument tells another number of runs.
  */
 public final class RandomRunsTest {
     private static final int CALLS = 512;
@@ -209,15 +210,24 @@ public final class RandomRunsTest {
         }
         calls++;
         made.merge(name, 1, Integer::sum);
-        long got = ask(face.get(name), object, arguments);
         long want = ask(model.get(name), due, arguments);
+        boolean refused = want == -101 || want == -102 || want == -103;
+        String before = refused ? Shown.by(object) : "";
+        long got = ask(face.get(name), object, arguments);
         story.append(' ').append(name).append(Arrays.toString(arguments)).append(" = ").append(got);
-        if (want == -101 || want == -102 || want == -103) {
-            errors.merge(want, 1, Integer::sum);
-        }
         if (got != want) {
             wrong++;
             story.append(", due is ").append(want);
+        } else if (refused) {
+            errors.merge(want, 1, Integer::sum);
+            lookAgain(before);
+        }
+    }
+
+    private void lookAgain(String before) {
+        if (!Shown.by(object).equals(before)) {
+            wrong++;
+            story.append(", but it changed what the object shows");
         }
     }
 

@@ -55,9 +55,10 @@ final class SlotsBoundaries {
             run.calls("sum(1) = FULL; plan(0,0,0) = FULL; send(0) = FULL; want(0,NONE) = 0; want(5,NONE) = 4; schedule(0) = 0;"
                     + " drop(5,59) = 59; idle(30) = 1; count(6) = 29");
         }
-        // Plans, and the bytes of sums, come back as they were.
-        run.calls("reset(1,1,1); setContent(0,99); sum(1); send(0); plan(0,3,0); plan(0,4,9); save(0) = 1; reset(1,1,1); plan(0,5,5);"
-                + " restore(0) = 1; decode(0,0) = 99; idle(1) = 1; cached(0,4) = 1; drop(0,4); idle(1) = 1; cached(0,3) = 1");
+        // Plans, and the bytes of sums, come back as they were, though others stood in their places since.
+        run.calls("reset(1,2,1); setContent(0,99); sum(1); send(0); plan(0,3,0); plan(1,4,9); save(0) = 1; reset(1,2,1); setContent(0,7);"
+                + " sum(1); send(0); decode(0,0) = 7; plan(1,5,5); plan(0,6,5); restore(0) = 1; decode(0,0) = 99; idle(1) = 1;"
+                + " cached(1,4) = 1; cached(0,3) = 0; idle(1) = 1; cached(0,3) = 1");
     }
 
     private static void count() {
@@ -110,6 +111,12 @@ final class SlotsBoundaries {
         repeat(most, 100, 5);
         repeat(most, 7, 0);
         Boundary.of(36, "in long arithmetic with overflow").calls(BRIMFUL + "80 * type(32); digest() = " + digestOf(most));
+        // User 0 has piece 4 in its cache; user 1 wants the file and received 3+4; 0+1 is pending.
+        List<Long> two = numbers(1, 2, 1, 1, 1, 0, 0, 12, 3, 0);
+        contents(two, 1);
+        two.addAll(numbers(-1, 1, 1, 0, 1, 0, 1, 0, 16, 0, 1, 0, 1, 1, 0, 0, 12, 0, 24, 3, 24, 0, 11, 12));
+        Boundary.of(36, "its cache as a set of pieces, and the sums of its list as sets of pieces").calls("reset(1,2,1); store(0,4);"
+                + " want(1,0); sum(24); sum(3); send(1) = 2; digest() = " + digestOf(two));
         List<Long> served = numbers(1, 1, 0, 0, 0, 0, 0, 12, 1, 0);
         contents(served, 1);
         served.addAll(numbers(0, 1, 0, 0, 0, 0, 0, 12, 0, 12, 12));

@@ -99,6 +99,9 @@ final class TermsBoundaries {
         // 0+1, 0+1 again, 0: the second sum is in no proof, though it would do as well as the first.
         Boundary.of(0, "these can be chosen from the independent rows in just one way, which is the proof of the piece").calls("2 * sum(3);"
                 + " 2 * sum(1); 4 * send(0); proof(0,0) = 4; proof(0,1) = 5; decode(0,1) = 48");
+        // A sum that was used twice on the way is not in the proof.
+        Boundary.of(0, "which is the proof of the piece").calls("sum(3); sum(6); sum(11); 3 * send(0); proof(0,3) = 5; reset(1,1,0);"
+                + " sum(7); sum(10); sum(6); 3 * send(0); proof(0,0) = 5; proof(0,1) = -1; sum(8); send(0); proof(0,1) = 10; proof(0,2) = 14");
         Boundary.of(0, "The rank of the user is the number of its independent rows").calls("reset(5,1,60); user(0,4) = 0; storeSubsets(1);"
                 + " 40 * sum(" + ((1L << 60) - 1) + "); 40 * send(0); user(0,4) = 60; user(0,5) = 40; drop(0,59); user(0,4) = 60;"
                 + " user(0,5) = 39; drop(0,58); user(0,4) = 59; user(0,6) = 58; storeSubsets(0); user(0,4) = 1; user(0,6) = 0");
@@ -139,9 +142,12 @@ final class TermsBoundaries {
                 + " store(0,59); schedule(1) = 35; pending(0) = 4; pending(1) = 2; pending(2) = " + (1L + (1L << 59)) + "; pending(3) = 8;"
                 + " pending(12) = " + (1L << 24) + "; pending(24) = " + (1L << 48) + "; pending(34) = " + (1L << 58)
                 + "; pending(35) = 0");
-        // Users that want nothing do not matter, though they have pieces.
+        // User 2 wants nothing any more: it does not matter what it has.
         order.calls("want(2,NONE); schedule(1) = 23; pending(0) = " + (1L + (1L << 59)) + "; pending(1) = 4; pending(2) = 2; pending(3) = 8;"
                 + " pending(12) = " + (1L << 48) + "; pending(22) = " + (1L << 58));
+        Boundary.of(0, "that of all demanding users just those of T without u have in their caches").calls("reset(2,3,24); want(1,0);"
+                + " want(2,1); store(0,3); schedule(1) = 24; pending(0) = 1; pending(3) = 8; want(0,0); schedule(1) = 35; pending(0) = 8;"
+                + " pending(1) = 1; want(0,NONE); store(2,3); schedule(1) = 24; pending(0) = 8; pending(1) = 1");
     }
 
     private static void leaders() {
@@ -164,6 +170,14 @@ final class TermsBoundaries {
                 + " drop(4,48); drop(5,59); want(0,0); want(1,1); want(2,2); want(3,3); want(4,4); want(5,4); schedule(3) = 1; pending(0) = "
                 + (1L + (1L << 12) + (1L << 24) + (1L << 36) + (1L << 48) + (1L << 59)) + "; drop(5,0); schedule(3) = 2; pending(0) = "
                 + (1L + (1L << 12) + (1L << 24) + (1L << 36) + (1L << 48)) + "; pending(1) = " + (1L << 59));
+        // User 1 joins with 12 and lacks 24: so user 2, which lacks only 24, cannot join any more.
+        Boundary.of(0, "each user of the group has the piece of the pair in its cache").calls("reset(3,3,36); storeSubsets(3); drop(0,0);"
+                + " drop(1,12); drop(2,24); want(0,0); want(1,1); want(2,2); schedule(3) = 1; pending(0) = 16781313; drop(1,24);"
+                + " schedule(3) = 2; pending(0) = 4097; pending(1) = 16777216; drop(0,12); schedule(3) = 2; pending(0) = 16777217;"
+                + " pending(1) = 4096");
+        Boundary.of(0, "the user of the pair has all pieces of the sum in its cache, except for its own piece").calls("reset(2,2,24);"
+                + " storeSubsets(2); drop(0,0); drop(1,12); want(0,0); want(1,1); schedule(3) = 1; pending(0) = 4097; drop(1,0);"
+                + " schedule(3) = 2; pending(0) = 1; pending(1) = 4096");
         Boundary.of(0, "or it is the piece for which this user is in the group").calls("reset(1,2,12); storeSubsets(2); drop(0,0); drop(1,0);"
                 + " want(0,0); want(1,0); schedule(3) = 1; pending(0) = 1; drop(1,1); schedule(3) = 2; pending(0) = 1; pending(1) = 2;"
                 + " store(1,0); schedule(3) = 1; pending(0) = 3");
