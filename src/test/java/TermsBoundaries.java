@@ -186,6 +186,12 @@ final class TermsBoundaries {
     private static void plans() {
         Boundary.of(0, "The server has a list of at most 30 plans").calls("29 * plan(0,0,0); plan(0,0,0) = 30; plan(0,0,0) = FULL; idle(1) = 0;"
                 + " plan(0,0,0) = 30; plan(0,0,0) = FULL");
+        // The list is full, and the plan that leaves it is the last one; then one in the middle; then the first.
+        Boundary.of(0, "When the server is idle for a tick, the plan with the greatest priority").calls("reset(3,1,36); 29 * plan(0,0,0);"
+                + " plan(0,1,9) = 30; idle(1) = 1; cached(0,1) = 1; cached(0,0) = 0; count(5) = 29; plan(0,2,0) = 30; idle(29) = 1;"
+                + " cached(0,0) = 1; cached(0,2) = 0; idle(1) = 1; cached(0,2) = 1; 15 * plan(0,3,3); plan(0,4,4); 14 * plan(0,5,3);"
+                + " count(5) = 30; idle(1) = 1; cached(0,4) = 1; idle(15) = 1; cached(0,3) = 1; cached(0,5) = 0; idle(14) = 1;"
+                + " cached(0,5) = 1; count(5) = 0; count(6) = 55");
         Boundary.of(0, "a plan consists of a user, a piece and a priority from 0 to 9").calls("reset(5,6,60); plan(5,59,9) = 1;"
                 + " plan(0,0,0) = 2; plan(6,0,0) = BAD; plan(0,60,0) = BAD; plan(0,0,10) = BAD; plan(0,0,-1) = BAD; idle(1) = 1;"
                 + " cached(5,59) = 1; cached(0,0) = 0; idle(1) = 1; cached(0,0) = 1");
