@@ -1,3 +1,4 @@
+import java.lang.reflect.InvocationTargetException;
 import java.lang.reflect.Method;
 import java.lang.reflect.Modifier;
 import java.util.ArrayList;
@@ -23,12 +24,17 @@ final class Run {
     private static final List<Run> ALL = new ArrayList<>();
     private static int wrong = 0;
     private static int made = 0;
+    /** Complaints are counted, but not printed. */
+    static boolean quiet = false;
 
     private final String name;
+    /** The calls of a muted run are not made. */
+    final boolean muted;
     private final List<String> allCalls = new ArrayList<>();
     private final List<String> changingCalls = new ArrayList<>();
     /** What the object shows now, or null if it may have changed since it was looked at. */
     private String shown = null;
+    private boolean looks = true;
     final CodedCaching object = new CodedCaching();
 
     static {
@@ -40,24 +46,43 @@ final class Run {
     }
 
     Run(String name) {
+        this(name, false);
+    }
+
+    Run(String name, boolean muted) {
         this.name = name;
+        this.muted = muted;
         ALL.add(this);
     }
 
     /** Ends the test program: with exit code 1 if an answer was not the one that is due. */
     static void end() {
-        for (Run run : ALL) {
-            run.compareWithTwin();
-        }
-        System.out.println(made + " calls, " + wrong + " answers not as due");
-        if (wrong != 0) {
+        int found = wrongInAll();
+        System.out.println(made + " calls, " + found + " answers not as due");
+        if (found != 0) {
             System.exit(1);
         }
     }
 
+    /** How many answers were not as due, when all runs have come to their end. */
+    static int wrongInAll() {
+        for (Run run : ALL) {
+            run.compareWithTwin();
+        }
+        return wrong;
+    }
+
     static void complain(String what) {
         wrong++;
-        System.out.println(what);
+        if (!quiet) {
+            System.out.println(what);
+        }
+    }
+
+    /** From now on only the calls that are written are made, and nothing is looked at between them. */
+    Run withoutLooks() {
+        looks = false;
+        return this;
     }
 
     Run calls(String calls) {
@@ -102,7 +127,7 @@ final class Run {
 
     Run due(String call, long got, long want) {
         made++;
-        if (got != want) {
+        if (!muted && got != want) {
             complain(name + ": " + call + " answered " + got + ", due is " + want);
         }
         return this;
@@ -110,6 +135,9 @@ final class Run {
 
     /** Makes a call that must be taken, whatever else it answers: anything but BAD. */
     Run taken(String call) {
+        if (muted) {
+            return this;
+        }
         made++;
         long got = record(call, false);
         if (got == CodedCaching.BAD) {
@@ -119,12 +147,15 @@ final class Run {
     }
 
     private void oneCall(String call) {
+        if (muted) {
+            return;
+        }
         int equals = call.indexOf('=');
         String plain = equals < 0 ? call : call.substring(0, equals).strip();
         boolean due = equals >= 0;
         long want = due ? number(call.substring(equals + 1).strip()) : 0;
         boolean asks = ASKING.contains(plain.substring(0, plain.indexOf('(')));
-        boolean leavesAll = asks || due && isError(want);
+        boolean leavesAll = looks && (asks || due && isError(want));
         if (leavesAll && shown == null) {
             shown = Shown.by(object);
         }
@@ -185,7 +216,10 @@ final class Run {
         }
         try {
             return ((Number) method.invoke(target, arguments)).longValue();
-        } catch (ReflectiveOperationException e) {
+        } catch (InvocationTargetException e) {
+            complain(name + ": " + call + " threw " + e.getCause());
+            return Long.MIN_VALUE;
+        } catch (IllegalAccessException e) {
             throw new IllegalStateException(name + ": " + call, e);
         }
     }
